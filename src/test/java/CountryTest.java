@@ -101,7 +101,7 @@ public final class CountryTest {
         Check.due("change of gold, whose gate is open", x.change(0, 0, 10), 150);
         x.gate(0, 0, false);
         x.gate(0, 1, true);
-        Check.noState(x, "change of gold at a gate that is shut for it", () -> x.change(0, 0, 0 + 1));
+        Check.noState(x, "change of gold at a gate that is shut for it", () -> x.change(0, 0, 1));
         Check.due("change of silver, whose gate is open", x.change(0, 1, 150), 10);
     }
 

@@ -133,12 +133,14 @@ public final class DebtTest {
         Twocoin x = withHouses();
         x.owe(0, 1, 1500, 0);
         x.owe(0, 1, 1, 0);
+        x.owe(0, 1, 15, 0);
         Check.due("100 of gold are worth 1550, more than 1500", x.ofDebt(0, 6), 1);
         x.market(150);
         Check.due("both are as much", x.ofDebt(0, 6), 1);
         x.market(149);
         Check.due("100 of gold are worth 1490, less than 1500", x.ofDebt(0, 6), 0);
         Check.due("1 of gold is worth 14, more than 1", x.ofDebt(1, 6), 1);
+        Check.due("1 of gold is worth 14.9, rounded down, less than 15", x.ofDebt(2, 6), 0);
         x.law(0, 149, 0);
         Check.due("101 of gold are worth 1504", x.ofDebt(0, 6), 1);
         x.send(0, 1);

@@ -142,6 +142,18 @@ public final class DigestTest {
         String before = Check.stateOf(x);
         x.digest();
         Check.due("a digest changes nothing", Check.stateOf(x), before);
+        testDigestOfThousand();
+    }
+
+    /** Two countries with a gain of just 1000 grams, and of neither 999 nor 1001. */
+    private static void testDigestOfThousand() {
+        Twocoin x = new Twocoin();
+        x.country(169, 0, 0, 0);
+        x.country(165, 1, 0, 0);
+        Check.due("rest of 999", x.rest(999), true);
+        Check.due("rest of 1000", x.rest(1000), false);
+        Check.due("rest of 1001", x.rest(1001), true);
+        checkDigest(x, 0, 155, 2, 0, 0);
     }
 
     private static void checkDigest(Twocoin x, int today, int market, int countries, int houses, int debts) {

@@ -125,17 +125,14 @@ public final class TripTest {
         Check.due("1 of silver is no gold", x.trip(1, 0, 1, 1), 0);
         Check.due("no rest by gold", x.rest(1), false);
         Check.due("gold from the lower rate", x.bestTrip(1, 0, 1), -1);
-        x.law(0, 199, 0);
-        x.law(1, 190, 0);
-        // 1990 of silver is 104 of gold, 1980 of silver is 99; gold: 100 - 1990 - 104
-        Check.due("no rest", x.rest(100), false);
-        // 20 of silver is 1 of gold at 19.0, that is 19 of silver; gold 1 is 19, that is 1
-        Check.due("rest of 1", x.rest(1), true);
-        // 19 of silver is 1 of gold, that is 19 of silver; gold 19 is 378, that is 19
-        Check.due("rest of 19", x.rest(19), true);
-        // 38 of silver is 2 of gold, that is 39 of silver
-        Check.due("38 of silver gain 1", x.trip(1, 0, 1, 38), 39);
-        Check.due("no rest by silver", x.rest(38), false);
+        x.law(0, 108, 0);
+        x.law(1, 107, 0);
+        // 10 of gold, that is 108
+        Check.due("107 of silver gain 1", x.trip(1, 0, 1, 107), 108);
+        // 1155 of silver, that is 107
+        Check.due("107 of gold gain nothing", x.trip(0, 1, 0, 107), 107);
+        Check.due("no rest by silver", x.rest(107), false);
+        Check.due("rest of 106", x.rest(106), true);
     }
 
     private static void testLast() {

@@ -8,6 +8,10 @@ final class Check {
         void run();
     }
 
+    interface Asked {
+        Object answer();
+    }
+
     private static int checks = 0;
     private static int wrong = 0;
 
@@ -20,6 +24,17 @@ final class Check {
             wrong++;
             System.out.println(what + " answered " + got + ", due is " + want);
         }
+    }
+
+    /** A call that must answer: one that throws is told like a wrong answer. */
+    static void answers(String what, Asked call, Object want) {
+        Object got;
+        try {
+            got = call.answer();
+        } catch (RuntimeException e) {
+            got = e.getClass();
+        }
+        due(what, got, want);
     }
 
     static void noIndex(Twocoin x, String what, Call call) {
@@ -35,7 +50,7 @@ final class Check {
     }
 
     /** The class must be the named one itself: a machine's own exception is mostly a subclass of it. */
-    private static void throwsDue(Twocoin x, String what, Class<?> want, Call call) {
+    static void throwsDue(Twocoin x, String what, Class<?> want, Call call) {
         String before = stateOf(x);
         Object got = "nothing";
         try {

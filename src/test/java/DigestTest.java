@@ -7,6 +7,7 @@ public final class DigestTest {
         testNotSound();
         testDigestOfNothing();
         testDigest();
+        testDigestOfTheUnsound();
         Check.close("DigestTest");
     }
 
@@ -154,6 +155,13 @@ public final class DigestTest {
         Check.due("rest of 1000", x.rest(1000), false);
         Check.due("rest of 1001", x.rest(1001), true);
         checkDigest(x, 0, 155, 2, 0, 0);
+    }
+
+    private static void testDigestOfTheUnsound() throws ReflectiveOperationException {
+        Twocoin x = withAll();
+        bend(valueOf(x, "worn"), "silver");
+        Check.due("isSound", x.isSound(), false);
+        checkDigest(x, 30, 149, 3, 3, 3);
     }
 
     private static void checkDigest(Twocoin x, int today, int market, int countries, int houses, int debts) {

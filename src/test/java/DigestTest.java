@@ -7,6 +7,7 @@ public final class DigestTest {
         testNotSound();
         testDigestOfNothing();
         testDigest();
+        testDigestOfTheFullWorld();
         testDigestOfTheUnsound();
         Check.close("DigestTest");
     }
@@ -155,6 +156,19 @@ public final class DigestTest {
         Check.due("rest of 1000", x.rest(1000), false);
         Check.due("rest of 1001", x.rest(1001), true);
         checkDigest(x, 0, 155, 2, 0, 0);
+    }
+
+    private static void testDigestOfTheFullWorld() {
+        Twocoin x = Worlds.full();
+        checkDigest(x, 0, 155, 4, 6, 10);
+        x.settle(9, 0);
+        x.send(0, 1);
+        x.send(5, 2);
+        x.market(100);
+        checkDigest(x, 0, 100, 4, 6, 10);
+        checkDigest(Worlds.onDay(x, 2999), 2999, 100, 4, 6, 10);
+        x.send(0, 3);
+        checkDigest(x, x.pass(1), 100, 4, 6, 10);
     }
 
     private static void testDigestOfTheUnsound() throws ReflectiveOperationException {

@@ -43,6 +43,7 @@ final class Worlds {
         return x;
     }
 
+    /** Lets days go by in a world on day 0. */
     static Twocoin onDay(Twocoin x, int day) {
         int today = 0;
         while (today < day) {

@@ -741,7 +741,7 @@ public final class Twocoin {
         return day % WEAR_EVERY == 0;
     }
 
-    // Reckoned in long: what a purse gathers in 512 calls, times a rate, is more than an int holds.
+    // Products are reckoned in long: a hundred times what a purse can gather in 512 calls is more than an int holds.
     private static int worthOf(int gold, int silver, int rate) {
         return (int) (silver + (long) gold * rate / 10);
     }

@@ -158,15 +158,20 @@ public final class DigestTest {
         checkDigest(x, 0, 155, 2, 0, 0);
     }
 
-    private static void testDigestOfTheFullWorld() {
+    private static Twocoin fullAndLived() {
         Twocoin x = Worlds.full();
-        checkDigest(x, 0, 155, 4, 6, 10);
         x.settle(9, 0);
         x.send(0, 1);
         x.send(5, 2);
         x.market(100);
-        checkDigest(x, 0, 100, 4, 6, 10);
-        checkDigest(Worlds.onDay(x, 2999), 2999, 100, 4, 6, 10);
+        return x;
+    }
+
+    private static void testDigestOfTheFullWorld() {
+        checkDigest(Worlds.full(), 0, 155, 4, 6, 10);
+        checkDigest(fullAndLived(), 0, 100, 4, 6, 10);
+        Twocoin x = Worlds.onDay(fullAndLived(), 2999);
+        checkDigest(x, 2999, 100, 4, 6, 10);
         x.send(0, 3);
         checkDigest(x, x.pass(1), 100, 4, 6, 10);
     }

@@ -89,26 +89,30 @@ public final class EmptyFullTest {
 
     /** With so many countries, just the numbers below that are known, for each call. */
     private static void testCountries() {
-        Twocoin x = new Twocoin();
         for (int many = 1; many <= 4; many++) {
-            Check.due("country", x.country(150, 0, 100, 100), many - 1);
+            Twocoin x = new Twocoin();
+            for (int one = 0; one < many; one++) {
+                Check.due("country", x.country(150, 0, 100, 100), one);
+            }
+            noneOf(x, many + " countries", OF_COUNTRY, many);
+            noneOf(x, many + " countries, but no houses", OF_HOUSE, 0);
+            noneOf(x, many + " countries, but no debts", OF_DEBT, 0);
             for (int one = 0; one < many; one++) {
                 known(x, OF_COUNTRY, one, 4);
-                noneOf(x, many + " countries", OF_COUNTRY, many);
-                int last = one;
-                int next = many;
-                Check.noIndex(x, "road to the next", () -> x.road(last, next, 1, 0));
-                Check.noIndex(x, "road from the next", () -> x.road(next, last, 1, 0));
-                Check.noIndex(x, "trip over the next", () -> x.trip(last, next, 0, 0));
-                Check.noIndex(x, "trip from the next", () -> x.trip(next, last, 0, 0));
+                checkPairs(x, one, many);
             }
         }
-        noneOf(x, "countries, but no houses", OF_HOUSE, 0);
-        noneOf(x, "countries, but no debts", OF_DEBT, 0);
-        for (int one = 0; one < 16; one++) {
-            if (one / 4 != one % 4) {
-                Check.due("trip of nothing", x.trip(one / 4, one % 4, 0, 0), 0);
-                Check.due("road", x.road(one / 4, one % 4, 3, 10), 3);
+    }
+
+    private static void checkPairs(Twocoin x, int one, int many) {
+        Check.noIndex(x, "road to the next", () -> x.road(one, many, 1, 0));
+        Check.noIndex(x, "road from the next", () -> x.road(many, one, 1, 0));
+        Check.noIndex(x, "trip over the next", () -> x.trip(one, many, 0, 0));
+        Check.noIndex(x, "trip from the next", () -> x.trip(many, one, 0, 0));
+        for (int other = 0; other < many; other++) {
+            if (other != one) {
+                Check.due("trip of nothing", x.trip(one, other, 0, 0), 0);
+                Check.due("road", x.road(one, other, 3, 10), 3);
             }
         }
     }

@@ -188,7 +188,7 @@ public final class TripTest {
 
     /** What last() tells is what comes when so much is used, day by day. */
     private static void testLastByLiving() {
-        int[] grams = {150, 333, 777, 1234, 99999};
+        int[] grams = {1234, 1500, 2345, 6789, 99999};
         for (int drawn : grams) {
             for (int metal = 0; metal < 2; metal++) {
                 Twocoin x = new Twocoin();
